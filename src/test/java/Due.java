@@ -1,0 +1,24 @@
+/** Compares answers with those that are due, and ends a test. */
+final class Due {
+    private int asked;
+    private int wrong;
+
+    void is(String call, long got, long want) {
+        asked++;
+        if (got != want) {
+            wrong++;
+            System.out.println(call + " answered " + got + ", due is " + want);
+        }
+    }
+
+    void holds(String what, boolean held) {
+        is(what, held ? 1 : 0, 1);
+    }
+
+    void end() {
+        System.out.println(asked + " answers, " + wrong + " not as due");
+        if (wrong != 0 || asked == 0) {
+            System.exit(1);
+        }
+    }
+}
