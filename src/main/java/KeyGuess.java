@@ -259,6 +259,7 @@ public final class KeyGuess {
     /** Numbers that rise, no two the same, at most as many as there may be keys. */
     private static final class Keys {
         private final int[] cells;
+        // Never above the length of cells: what would go beyond it is not taken.
         private int size;
 
         Keys() {
@@ -270,12 +271,12 @@ public final class KeyGuess {
         }
 
         int key(int k) {
-            return k >= 0 && k < size && k < cells.length ? cells[k] : NONE;
+            return k >= 0 && k < size ? cells[k] : NONE;
         }
 
         int below(int x) {
             int k = 0;
-            while (k < size && key(k) < x) {
+            while (k < size && cells[k] < x) {
                 k++;
             }
             return k;
@@ -283,7 +284,7 @@ public final class KeyGuess {
 
         boolean has(int x) {
             int k = below(x);
-            return k < size && key(k) == x;
+            return k < size && cells[k] == x;
         }
 
         int within(int a, int b) {
@@ -334,7 +335,7 @@ public final class KeyGuess {
             if (!has(x)) {
                 return;
             }
-            for (int k = below(x) + 1; k < size && k < cells.length; k++) {
+            for (int k = below(x) + 1; k < size; k++) {
                 cells[k - 1] = cells[k];
             }
             size--;
@@ -347,12 +348,14 @@ public final class KeyGuess {
      * fewest, and all lengths are tried.
      */
     private static final class Cuts {
+        private final int[] cells;
         private final int[] fewest;
         private final int[] lasts;
         private final int[] slopeNums;
         private final int[] slopeDens;
 
         Cuts() {
+            cells = new int[MOST_KEYS];
             fewest = new int[MOST_KEYS + 1];
             lasts = new int[MOST_KEYS];
             slopeNums = new int[MOST_KEYS];
@@ -361,9 +364,12 @@ public final class KeyGuess {
 
         void cut(Keys keys, int e) {
             int n = Math.min(keys.size(), MOST_KEYS);
+            for (int k = 0; k < n; k++) {
+                cells[k] = keys.key(k);
+            }
             fewest[n] = 0;
             for (int i = n - 1; i >= 0; i--) {
-                cutFrom(keys, n, i, e);
+                cutFrom(i, n, e);
             }
         }
 
@@ -383,9 +389,15 @@ public final class KeyGuess {
             return isRank(i) ? slopeDens[i] : 1;
         }
 
-        /** Needs the fewest from all later ranks; of as few, the longest first piece stays. */
-        private void cutFrom(Keys keys, int n, int i, int e) {
-            int first = keys.key(i);
+        private static boolean isRank(int i) {
+            return i >= 0 && i < MOST_KEYS;
+        }
+
+        /**
+         * Needs the fewest from all later ranks. Fractions are compared crosswise: at most 60 + 8
+         * ranks times 1000000 fits an int.
+         */
+        private void cutFrom(int i, int n, int e) {
             int lowNum = 0;
             int lowDen = 1;
             // One over nothing: above every fraction, as no key bounds the slope yet.
@@ -393,20 +405,22 @@ public final class KeyGuess {
             int highDen = 0;
             settle(i, i, lowNum, lowDen);
             for (int j = i + 1; j < n; j++) {
-                int run = keys.key(j) - first;
-                int rise = j - i;
-                if (isAbove(rise - e, run, lowNum, lowDen)) {
-                    lowNum = rise - e;
+                int run = cells[j] - cells[i];
+                int least = j - i - e;
+                int most = j - i + e;
+                if (least * lowDen > lowNum * run) {
+                    lowNum = least;
                     lowDen = run;
                 }
-                if (isAbove(highNum, highDen, rise + e, run)) {
-                    highNum = rise + e;
+                if (most * highDen < highNum * run) {
+                    highNum = most;
                     highDen = run;
                 }
-                if (isAbove(lowNum, lowDen, highNum, highDen)) {
+                if (lowNum * highDen > highNum * lowDen) {
                     break;
                 }
-                if (fewestFrom(j + 1) < fewestFrom(i)) {
+                // Of as few the longer one is wanted, so the same number settles it again.
+                if (fewest[j + 1] < fewest[i]) {
                     settle(i, j, lowNum, lowDen);
                 }
             }
@@ -419,15 +433,6 @@ public final class KeyGuess {
                 slopeNums[i] = num;
                 slopeDens[i] = den;
             }
-        }
-
-        private static boolean isRank(int i) {
-            return i >= 0 && i < MOST_KEYS;
-        }
-
-        /** Of fractions with denominators of 0 or more. */
-        private static boolean isAbove(int num, int den, int otherNum, int otherDen) {
-            return (long) num * otherDen > (long) otherNum * den;
         }
     }
 

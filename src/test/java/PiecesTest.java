@@ -84,6 +84,8 @@ final class PiecesTest {
         piece("bound in between", made(1, 0, 1, 2, 8, 9), 0, 0, 0, 4, 0, 1, 2);
         // Above 0 are the bounds 1/6, 2/7, 3/8.
         piece("slack 5", made(5, 0, 1, 2, 3, 4, 5, 6, 7, 8), 0, 0, 0, 8, 0, 3, 8);
+        // So need the bound from above: 2/100 by the second key is below 3/103 by the fifth.
+        piece("bound from above", made(1, 0, 100, 101, 102, 103), 0, 0, 0, 3, 0, 1, 51);
         piece("far apart", made(0, 0, 1000000), 0, 0, 0, 1, 0, 1, 1000000);
         // The slope is 1/2 or more by 2, at most 4/8 by 8 and 4/9 by 9.
         DUE.is("just allowed", made(1, 0, 1, 2, 8).pieces(0), 1);
