@@ -398,12 +398,18 @@ public final class KeyGuess {
          * ranks times 1000000 fits an int.
          */
         private void cutFrom(int i, int n, int e) {
+            if (i < 0 || i >= n || n > MOST_KEYS) {
+                return;
+            }
             int lowNum = 0;
             int lowDen = 1;
             // One over nothing: above every fraction, as no key bounds the slope yet.
             int highNum = 1;
             int highDen = 0;
-            settle(i, i, lowNum, lowDen);
+            fewest[i] = fewest[i + 1] + 1;
+            lasts[i] = i;
+            slopeNums[i] = lowNum;
+            slopeDens[i] = lowDen;
             for (int j = i + 1; j < n; j++) {
                 int run = cells[j] - cells[i];
                 int least = j - i - e;
@@ -419,19 +425,13 @@ public final class KeyGuess {
                 if (lowNum * highDen > highNum * lowDen) {
                     break;
                 }
-                // Of as few the longer one is wanted, so the same number settles it again.
-                if (fewest[j + 1] < fewest[i]) {
-                    settle(i, j, lowNum, lowDen);
+                // Of as few pieces the longer first one is wanted, so the same number counts too.
+                if (fewest[j + 1] + 1 <= fewest[i]) {
+                    fewest[i] = fewest[j + 1] + 1;
+                    lasts[i] = j;
+                    slopeNums[i] = lowNum;
+                    slopeDens[i] = lowDen;
                 }
-            }
-        }
-
-        private void settle(int i, int j, int num, int den) {
-            if (isRank(i) && isRank(j)) {
-                fewest[i] = fewest[j + 1] + 1;
-                lasts[i] = j;
-                slopeNums[i] = num;
-                slopeDens[i] = den;
             }
         }
     }
@@ -440,7 +440,8 @@ public final class KeyGuess {
     private static final class Tower {
         private final Keys base;
         private final int[] starts;
-        // A piece but the last has two ranks or more: 30 + 15 + 8 + 4 + 2 + 1 pieces at most.
+        // Two neighbours always go into one piece, so a level has at most half as many pieces as
+        // ranks: 30 + 15 + 8 + 4 + 2 + 1 in all, no more than there may be keys.
         private final int[] froms;
         private final int[] lasts;
         private final int[] firsts;

@@ -1,7 +1,6 @@
 /** Promises 16 to 19: maybe, wrong, poison, count. */
 final class FilterTest {
     private static final Due DUE = new Due();
-    private static final int[] OUT = {Integer.MIN_VALUE, -1, 1000001, Integer.MAX_VALUE};
 
     public static void main(String[] args) {
         maybe();
@@ -15,17 +14,8 @@ final class FilterTest {
         DUE.end();
     }
 
-    private static KeyGuess made(int e, int... keys) {
-        KeyGuess x = new KeyGuess();
-        for (int key : keys) {
-            x.put(key);
-        }
-        x.slack(e);
-        return x;
-    }
-
     private static void maybe() {
-        KeyGuess x = made(2, 0);
+        KeyGuess x = Given.made(2, 0);
         DUE.is("one bit for both", x.count(5), 1);
         DUE.is("maybe(0)", x.maybe(0), 1);
         DUE.is("maybe(1)", x.maybe(1), 0);
@@ -36,27 +26,27 @@ final class FilterTest {
         DUE.is("maybe(62): bits 1, 1", x.maybe(62), 1);
         DUE.is("maybe(63): bits 2, 1", x.maybe(63), 0);
 
-        KeyGuess y = made(2, 3843);
+        KeyGuess y = Given.made(2, 3843);
         DUE.is("bits 0, 63", y.count(5), 2);
         DUE.is("maybe(3843)", y.maybe(3843), 1);
         DUE.is("maybe(0) by bit 0", y.maybe(0), 1);
         DUE.is("maybe(3844): bits 1, 63", y.maybe(3844), 0);
 
         // 1000000 = 61 * 16393 + 27, and 16393 = 64 * 256 + 9.
-        KeyGuess z = made(2, 1000000);
+        KeyGuess z = Given.made(2, 1000000);
         DUE.is("maybe(1000000)", z.maybe(1000000), 1);
         DUE.is("maybe(576): 61 * 9 + 27", z.maybe(576), 1);
         DUE.is("maybe(575)", z.maybe(575), 0);
         DUE.is("maybe(1674): 61 * 27 + 27", z.maybe(1674), 1);
         DUE.is("maybe(558): 61 * 9 + 9", z.maybe(558), 1);
         DUE.is("maybe(32): bits 32, 0", z.maybe(32), 0);
-        for (int out : OUT) {
+        for (int out : Given.OUT) {
             DUE.is("maybe out of bounds", z.maybe(out), KeyGuess.BAD);
         }
     }
 
     private static void filterSinceMade() {
-        KeyGuess x = made(2, 100);
+        KeyGuess x = Given.made(2, 100);
         x.put(200);
         DUE.is("NEW: maybe(200)", x.maybe(200), 1);
         x.take(200);
@@ -74,7 +64,7 @@ final class FilterTest {
     }
 
     private static void wrong() {
-        KeyGuess x = made(2, 0);
+        KeyGuess x = Given.made(2, 0);
         DUE.is("wrong(0, 2000)", x.wrong(0, 2000), 0);
         DUE.is("wrong(0, 2001)", x.wrong(0, 2001), KeyGuess.BAD);
         DUE.is("wrong(1904, 3904)", x.wrong(1904, 3904), 1);
@@ -89,9 +79,9 @@ final class FilterTest {
         DUE.is("0", x.wrong(0, 61), 1);
         DUE.is("1 is a key", x.wrong(1, 1), 0);
         DUE.is("wrong(5, 4)", x.wrong(5, 4), KeyGuess.BAD);
-        DUE.is("wrong(998000, 1000000)", made(2).wrong(998000, 1000000), 0);
+        DUE.is("wrong(998000, 1000000)", Given.made(2).wrong(998000, 1000000), 0);
         DUE.is("wrong(0, 1000000)", x.wrong(0, 1000000), KeyGuess.BAD);
-        for (int out : OUT) {
+        for (int out : Given.OUT) {
             DUE.is("wrong from out of bounds", x.wrong(out, 5), KeyGuess.BAD);
             DUE.is("wrong to out of bounds", x.wrong(999999, out), KeyGuess.BAD);
             DUE.is("wrong out of bounds", x.wrong(out, out), KeyGuess.BAD);
@@ -99,7 +89,7 @@ final class FilterTest {
     }
 
     private static void poison() {
-        KeyGuess x = made(0, 0, 10, 20);
+        KeyGuess x = Given.made(0, 0, 10, 20);
         DUE.is("the least of several", x.poison(0, 40, 0), 1);
         DUE.is("its pieces", x.poison(0, 40, 1), 2);
         DUE.is("in line", x.poison(30, 30, 1), 1);
@@ -109,7 +99,7 @@ final class FilterTest {
         DUE.is("all are keys", x.poison(10, 10, 0), KeyGuess.NONE);
         DUE.is("all are keys: pieces", x.poison(10, 10, 1), KeyGuess.NONE);
         // 10 leaves 0 10 20, 40 50 60; 11 leaves 0 11, 20 40, 50 60.
-        KeyGuess y = made(0, 0, 20, 40, 50, 60);
+        KeyGuess y = Given.made(0, 0, 20, 40, 50, 60);
         DUE.is("three", y.poison(10, 50, 1), 3);
         DUE.is("three by 11", y.poison(10, 50, 0), 11);
         KeyGuess none = new KeyGuess();
@@ -126,21 +116,21 @@ final class FilterTest {
 
     private static void poisonSlack() {
         int[] keys = {0, 1, 2, 8};
-        DUE.is("slack 0", made(0, keys).poison(20, 20, 1), 2);
-        DUE.is("slack 1: 0 1 2 8, 20", made(1, keys).poison(20, 20, 1), 2);
-        DUE.is("slack 8", made(8, keys).poison(20, 20, 1), 1);
+        DUE.is("slack 0", Given.made(0, keys).poison(20, 20, 1), 2);
+        DUE.is("slack 1: 0 1 2 8, 20", Given.made(1, keys).poison(20, 20, 1), 2);
+        DUE.is("slack 8", Given.made(8, keys).poison(20, 20, 1), 1);
         // The slope is 1/2 or more by 2, at most 5/10 by 10 and 5/11 by 11.
-        DUE.is("slack 1: 10", made(1, keys).poison(9, 10, 1), 1);
-        DUE.is("slack 1: 11", made(1, keys).poison(9, 13, 0), 11);
+        DUE.is("slack 1: 10", Given.made(1, keys).poison(9, 10, 1), 1);
+        DUE.is("slack 1: 11", Given.made(1, keys).poison(9, 13, 0), 11);
     }
 
     private static void poisonRefused() {
-        KeyGuess x = made(0, 0, 10, 20);
+        KeyGuess x = Given.made(0, 0, 10, 20);
         DUE.is("poison(0, 41, 0)", x.poison(0, 41, 0), KeyGuess.BAD);
         DUE.is("poison(5, 4, 0)", x.poison(5, 4, 0), KeyGuess.BAD);
         DUE.is("poison(0, 4, 2)", x.poison(0, 4, 2), KeyGuess.BAD);
         DUE.is("poison(0, 4, -1)", x.poison(0, 4, -1), KeyGuess.BAD);
-        for (int out : OUT) {
+        for (int out : Given.OUT) {
             DUE.is("poison from out of bounds", x.poison(out, 5, 0), KeyGuess.BAD);
             DUE.is("poison to out of bounds", x.poison(999999, out, 0), KeyGuess.BAD);
             DUE.is("poison out of bounds", x.poison(out, out, 1), KeyGuess.BAD);
@@ -160,7 +150,7 @@ final class FilterTest {
     }
 
     private static void poisonChangesNothing() {
-        KeyGuess x = made(0, 0, 10, 20);
+        KeyGuess x = Given.made(0, 0, 10, 20);
         x.put(33);
         x.poison(21, 61, 0);
         int[] due = {4, 3, 1, 0};
@@ -176,7 +166,7 @@ final class FilterTest {
     }
 
     private static void count() {
-        KeyGuess x = made(2, 0, 61, 122);
+        KeyGuess x = Given.made(2, 0, 61, 122);
         x.put(5);
         x.put(6);
         x.take(61);

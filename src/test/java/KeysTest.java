@@ -1,7 +1,6 @@
 /** Promises 1 to 9: a new object, put, take, make, slack, place, at, range, sum. */
 final class KeysTest {
     private static final Due DUE = new Due();
-    private static final int[] OUT = {Integer.MIN_VALUE, -1, 1000001, Integer.MAX_VALUE};
 
     public static void main(String[] args) {
         newObject();
@@ -17,14 +16,6 @@ final class KeysTest {
         range();
         sum();
         DUE.end();
-    }
-
-    private static KeyGuess with(int... keys) {
-        KeyGuess x = new KeyGuess();
-        for (int key : keys) {
-            x.put(key);
-        }
-        return x;
     }
 
     private static KeyGuess withTens(int many) {
@@ -59,7 +50,7 @@ final class KeysTest {
         DUE.is("put(0)", x.put(0), 2);
         DUE.is("put(7)", x.put(7), 3);
         DUE.is("put(7) again", x.put(7), KeyGuess.NOT);
-        for (int out : OUT) {
+        for (int out : Given.OUT) {
             DUE.is("put out of bounds", x.put(out), KeyGuess.BAD);
         }
         counts("after puts", x, 3, 0, 3, 0);
@@ -118,9 +109,9 @@ final class KeysTest {
     }
 
     private static void take() {
-        KeyGuess x = with(0, 5, 1000000);
+        KeyGuess x = Given.with(0, 5, 1000000);
         DUE.is("take(6)", x.take(6), KeyGuess.NOT);
-        for (int out : OUT) {
+        for (int out : Given.OUT) {
             DUE.is("take out of bounds", x.take(out), KeyGuess.BAD);
         }
         counts("after refused takes", x, 3, 0, 3, 0);
@@ -155,7 +146,7 @@ final class KeysTest {
     }
 
     private static void make() {
-        KeyGuess x = with(3, 1, 2);
+        KeyGuess x = Given.with(3, 1, 2);
         DUE.is("make()", x.make(), 3);
         counts("made", x, 3, 3, 0, 0);
         DUE.is("make() again", x.make(), 6);
@@ -176,7 +167,7 @@ final class KeysTest {
     }
 
     private static void slack() {
-        KeyGuess x = with(1, 2);
+        KeyGuess x = Given.with(1, 2);
         DUE.is("slack(-1)", x.slack(-1), KeyGuess.BAD);
         DUE.is("slack(9)", x.slack(9), KeyGuess.BAD);
         DUE.is("slack(MIN)", x.slack(Integer.MIN_VALUE), KeyGuess.BAD);
@@ -193,7 +184,7 @@ final class KeysTest {
     }
 
     private static void place() {
-        KeyGuess x = with(40, 10, 30, 20);
+        KeyGuess x = Given.with(40, 10, 30, 20);
         DUE.is("place(10)", x.place(10), 0);
         DUE.is("place(40)", x.place(40), 3);
         DUE.is("place(15)", x.place(15), KeyGuess.NONE);
@@ -204,7 +195,7 @@ final class KeysTest {
         DUE.is("place(20)", x.place(20), 0);
         DUE.is("place of a NEW one", x.place(25), 1);
         DUE.is("place(30)", x.place(30), 2);
-        for (int out : OUT) {
+        for (int out : Given.OUT) {
             DUE.is("place out of bounds", x.place(out), KeyGuess.BAD);
         }
         x.put(0);
@@ -214,7 +205,7 @@ final class KeysTest {
     }
 
     private static void at() {
-        KeyGuess x = with(40, 10, 30);
+        KeyGuess x = Given.with(40, 10, 30);
         x.make();
         x.take(10);
         x.put(35);
@@ -232,7 +223,7 @@ final class KeysTest {
     }
 
     private static void range() {
-        KeyGuess x = with(0, 10, 20, 30, 1000000);
+        KeyGuess x = Given.with(0, 10, 20, 30, 1000000);
         x.make();
         x.take(10);
         x.put(25);
@@ -243,7 +234,7 @@ final class KeysTest {
         DUE.is("range(10, 10)", x.range(10, 10), 0);
         DUE.is("range(1000000, 1000000)", x.range(1000000, 1000000), 1);
         DUE.is("range(30, 29)", x.range(30, 29), KeyGuess.BAD);
-        for (int out : OUT) {
+        for (int out : Given.OUT) {
             DUE.is("range from out of bounds", x.range(out, 5), KeyGuess.BAD);
             DUE.is("range to out of bounds", x.range(5, out), KeyGuess.BAD);
             DUE.is("range out of bounds", x.range(out, out), KeyGuess.BAD);
@@ -251,7 +242,7 @@ final class KeysTest {
     }
 
     private static void sum() {
-        KeyGuess x = with(0, 10, 20, 30, 999999, 1000000);
+        KeyGuess x = Given.with(0, 10, 20, 30, 999999, 1000000);
         x.make();
         x.take(10);
         x.put(25);
@@ -261,7 +252,7 @@ final class KeysTest {
         DUE.is("sum(1, 19)", x.sum(1, 19), 0L);
         DUE.is("sum(1000000, 1000000)", x.sum(1000000, 1000000), 1000000L);
         DUE.is("sum(30, 29)", x.sum(30, 29), -2L);
-        for (int out : OUT) {
+        for (int out : Given.OUT) {
             DUE.is("sum from out of bounds", x.sum(out, 5), -2L);
             DUE.is("sum to out of bounds", x.sum(5, out), -2L);
             DUE.is("sum out of bounds", x.sum(out, out), -2L);

@@ -1,7 +1,6 @@
 /** Promises 10 to 15: pieces, piece, levels, guess, find, looks. */
 final class PiecesTest {
     private static final Due DUE = new Due();
-    private static final int[] OUT = {Integer.MIN_VALUE, -1, 1000001, Integer.MAX_VALUE};
 
     public static void main(String[] args) {
         pieces();
@@ -20,15 +19,6 @@ final class PiecesTest {
         DUE.end();
     }
 
-    private static KeyGuess made(int e, int... keys) {
-        KeyGuess x = new KeyGuess();
-        for (int key : keys) {
-            x.put(key);
-        }
-        x.slack(e);
-        return x;
-    }
-
     private static void piece(String when, KeyGuess x, int level, int k, int... due) {
         for (int what = 0; what < due.length; what++) {
             String call = when + " piece(" + level + ", " + k + ", " + what + ")";
@@ -37,7 +27,7 @@ final class PiecesTest {
     }
 
     private static void pieces() {
-        KeyGuess x = made(0, 10, 20, 30, 40, 55, 70, 85);
+        KeyGuess x = Given.made(0, 10, 20, 30, 40, 55, 70, 85);
         DUE.is("pieces(0)", x.pieces(0), 2);
         piece("straight", x, 0, 0, 0, 3, 10, 1, 10);
         piece("straight", x, 0, 1, 4, 6, 55, 1, 15);
@@ -49,14 +39,14 @@ final class PiecesTest {
         DUE.is("pieces(-1)", x.pieces(-1), KeyGuess.BAD);
         DUE.is("pieces(MIN)", x.pieces(Integer.MIN_VALUE), KeyGuess.BAD);
         DUE.is("pieces(MAX)", x.pieces(Integer.MAX_VALUE), KeyGuess.BAD);
-        KeyGuess none = made(2);
+        KeyGuess none = Given.made(2);
         DUE.is("pieces(0) without keys", none.pieces(0), 0);
         DUE.is("pieces(9) without keys", none.pieces(9), 0);
     }
 
     /** Ranks 0 to 2 go into one piece, but then three are needed: 0 to 2, 3 to 5, 6. */
     private static void longestIsNotFewest() {
-        KeyGuess x = made(1, 3, 4, 5, 12, 15, 17, 34);
+        KeyGuess x = Given.made(1, 3, 4, 5, 12, 15, 17, 34);
         DUE.is("fewest pieces(0)", x.pieces(0), 2);
         piece("fewest", x, 0, 0, 0, 1, 3, 0, 1);
         piece("fewest", x, 0, 1, 2, 6, 5, 1, 6);
@@ -64,36 +54,36 @@ final class PiecesTest {
 
     /** Squares: no three of them are in line, so two pieces are needed; the first has two ranks. */
     private static void longestFirstOfAsFew() {
-        KeyGuess x = made(0, 0, 1, 4);
+        KeyGuess x = Given.made(0, 0, 1, 4);
         DUE.is("as few pieces(0)", x.pieces(0), 2);
         piece("as few", x, 0, 0, 0, 1, 0, 1, 1);
         piece("as few", x, 0, 1, 2, 2, 4, 0, 1);
-        KeyGuess y = made(0, 0, 1, 4, 9, 16);
+        KeyGuess y = Given.made(0, 0, 1, 4, 9, 16);
         DUE.is("as few of five", y.pieces(0), 3);
         piece("as few of five", y, 0, 1, 2, 3, 4, 1, 5);
         piece("as few of five", y, 0, 2, 4, 4, 16, 0, 1);
     }
 
     private static void slopes() {
-        piece("one key", made(0, 1000000), 0, 0, 0, 0, 1000000, 0, 1);
-        piece("slope 0 is enough", made(2, 0, 1, 2), 0, 0, 0, 2, 0, 0, 1);
+        piece("one key", Given.made(0, 1000000), 0, 0, 0, 0, 1000000, 0, 1);
+        piece("slope 0 is enough", Given.made(2, 0, 1, 2), 0, 0, 0, 2, 0, 0, 1);
         // Bounds from below 1/10, 2/20, 3/30 with no slack; 0, 1/20, 2/30 with 1.
-        piece("no slack", made(0, 0, 10, 20, 30), 0, 0, 0, 3, 0, 1, 10);
-        piece("slack 1", made(1, 0, 10, 20, 30), 0, 0, 0, 3, 0, 1, 15);
+        piece("no slack", Given.made(0, 0, 10, 20, 30), 0, 0, 0, 3, 0, 1, 10);
+        piece("slack 1", Given.made(1, 0, 10, 20, 30), 0, 0, 0, 3, 0, 1, 15);
         // The bound that counts need not be the last one: 0, 1/2, 2/8, 3/9, and 4/8 from above.
-        piece("bound in between", made(1, 0, 1, 2, 8, 9), 0, 0, 0, 4, 0, 1, 2);
+        piece("bound in between", Given.made(1, 0, 1, 2, 8, 9), 0, 0, 0, 4, 0, 1, 2);
         // Above 0 are the bounds 1/6, 2/7, 3/8.
-        piece("slack 5", made(5, 0, 1, 2, 3, 4, 5, 6, 7, 8), 0, 0, 0, 8, 0, 3, 8);
+        piece("slack 5", Given.made(5, 0, 1, 2, 3, 4, 5, 6, 7, 8), 0, 0, 0, 8, 0, 3, 8);
         // So need the bound from above: 2/100 by the second key is below 3/103 by the fifth.
-        piece("bound from above", made(1, 0, 100, 101, 102, 103), 0, 0, 0, 3, 0, 1, 51);
-        piece("far apart", made(0, 0, 1000000), 0, 0, 0, 1, 0, 1, 1000000);
+        piece("bound from above", Given.made(1, 0, 100, 101, 102, 103), 0, 0, 0, 3, 0, 1, 51);
+        piece("far apart", Given.made(0, 0, 1000000), 0, 0, 0, 1, 0, 1, 1000000);
         // The slope is 1/2 or more by 2, at most 4/8 by 8 and 4/9 by 9.
-        DUE.is("just allowed", made(1, 0, 1, 2, 8).pieces(0), 1);
-        DUE.is("just not allowed", made(1, 0, 1, 2, 9).pieces(0), 2);
+        DUE.is("just allowed", Given.made(1, 0, 1, 2, 8).pieces(0), 1);
+        DUE.is("just not allowed", Given.made(1, 0, 1, 2, 9).pieces(0), 2);
     }
 
     private static void pieceRefused() {
-        KeyGuess x = made(0, 10, 20, 30, 40, 55, 70, 85);
+        KeyGuess x = Given.made(0, 10, 20, 30, 40, 55, 70, 85);
         int[][] bad = {
             {-1, 0, 0}, {2, 0, 0}, {9, 0, 0}, {10, 0, 0}, {0, -1, 0}, {0, 2, 0}, {1, 1, 0},
             {0, 0, -1}, {0, 0, 5}, {Integer.MIN_VALUE, 0, 0}, {Integer.MAX_VALUE, 0, 0},
@@ -113,7 +103,7 @@ final class PiecesTest {
         for (int k = 0; k < 60; k++) {
             squares[k] = k * k;
         }
-        KeyGuess x = made(0, squares);
+        KeyGuess x = Given.made(0, squares);
         int[] due = {30, 15, 8, 4, 2, 1, 0, 0, 0, 0};
         for (int level = 0; level < due.length; level++) {
             DUE.is("squares pieces(" + level + ")", x.pieces(level), due[level]);
@@ -123,10 +113,10 @@ final class PiecesTest {
         piece("squares", x, 1, 14, 28, 29, 56 * 56, 1, 58 * 58 - 56 * 56);
         piece("squares", x, 2, 7, 14, 14, 56 * 56, 0, 1);
         piece("squares", x, 5, 0, 0, 1, 0, 1, 32 * 32);
-        DUE.is("one level", made(2, 5).levels(), 1);
-        DUE.is("no level", made(2).levels(), 0);
+        DUE.is("one level", Given.made(2, 5).levels(), 1);
+        DUE.is("no level", Given.made(2).levels(), 0);
         // The upper level has the same slack: 0, 10000, 1000000 are not in line.
-        KeyGuess y = made(1, 0, 1, 2, 10000, 10001, 10002, 1000000);
+        KeyGuess y = Given.made(1, 0, 1, 2, 10000, 10001, 10002, 1000000);
         DUE.is("slack 1 pieces(0)", y.pieces(0), 3);
         piece("slack 1", y, 0, 1, 3, 5, 10000, 1, 2);
         DUE.is("slack 1 levels()", y.levels(), 2);
@@ -134,7 +124,7 @@ final class PiecesTest {
     }
 
     private static void keptUntilMade() {
-        KeyGuess x = made(0, 10, 20, 30);
+        KeyGuess x = Given.made(0, 10, 20, 30);
         x.put(31);
         x.put(32);
         x.take(20);
@@ -155,7 +145,7 @@ final class PiecesTest {
 
     /** Two pieces: 10, 20, 30, 40 with 1/10 and 55, 70, 85 with 1/15. */
     private static void guess() {
-        KeyGuess x = made(0, 10, 20, 30, 40, 55, 70, 85);
+        KeyGuess x = Given.made(0, 10, 20, 30, 40, 55, 70, 85);
         int[][] due = {
             {0, 0}, {9, 0}, {10, 0}, {19, 0}, {20, 1}, {39, 2}, {40, 3}, {50, 3}, {54, 3},
             {55, 4}, {69, 4}, {70, 5}, {84, 5}, {85, 6}, {100, 6}, {1000000, 6}
@@ -163,15 +153,15 @@ final class PiecesTest {
         for (int[] d : due) {
             DUE.is("guess(" + d[0] + ")", x.guess(d[0]), d[1]);
         }
-        KeyGuess y = made(8, 0, 1000000);
+        KeyGuess y = Given.made(8, 0, 1000000);
         DUE.is("slope 0 guess", y.guess(1000000), 0);
-        KeyGuess z = made(0, 500, 1000);
+        KeyGuess z = Given.made(0, 500, 1000);
         DUE.is("far below the first", z.guess(0), 0);
     }
 
     /** Ten keys 0, 10, .. 90 with slack 2: slope 7/90, so the guess of rank k is 7k / 9, cut. */
     private static void looksAmongEvenKeys() {
-        KeyGuess x = made(2, 0, 10, 20, 30, 40, 50, 60, 70, 80, 90);
+        KeyGuess x = Given.made(2, 0, 10, 20, 30, 40, 50, 60, 70, 80, 90);
         piece("even", x, 0, 0, 0, 9, 0, 7, 90);
         int[] looks = {1, 2, 3, 3, 3, 5, 5, 5, 5, 5};
         for (int k = 0; k < looks.length; k++) {
@@ -188,7 +178,7 @@ final class PiecesTest {
 
     /** Slope 1/2: the guess of 8, rank 3, is 4; that of 2, rank 2, is 1. */
     private static void looksBothSides() {
-        KeyGuess x = made(1, 0, 1, 2, 8, 9);
+        KeyGuess x = Given.made(1, 0, 1, 2, 8, 9);
         DUE.is("guess(8)", x.guess(8), 4);
         DUE.is("find(8)", x.find(8), 3);
         DUE.is("looks(8): 4 3", x.looks(8), 2);
@@ -200,7 +190,7 @@ final class PiecesTest {
 
     /** The second piece, 5 to 34 with 1/6, begins at rank 2: ranks below are not looked at. */
     private static void looksInOnePiece() {
-        KeyGuess x = made(1, 3, 4, 5, 12, 15, 17, 34);
+        KeyGuess x = Given.made(1, 3, 4, 5, 12, 15, 17, 34);
         DUE.is("guess(6)", x.guess(6), 2);
         DUE.is("looks(6): 2 3", x.looks(6), 2);
         DUE.is("find(34)", x.find(34), 6);
@@ -232,14 +222,14 @@ final class PiecesTest {
     }
 
     private static void outOfBounds() {
-        for (KeyGuess x : new KeyGuess[] {new KeyGuess(), made(2, 0, 5, 1000000)}) {
-            for (int out : OUT) {
+        for (KeyGuess x : new KeyGuess[] {new KeyGuess(), Given.made(2, 0, 5, 1000000)}) {
+            for (int out : Given.OUT) {
                 DUE.is("guess out of bounds", x.guess(out), KeyGuess.BAD);
                 DUE.is("find out of bounds", x.find(out), KeyGuess.BAD);
                 DUE.is("looks out of bounds", x.looks(out), KeyGuess.BAD);
             }
         }
-        KeyGuess x = made(0, 0, 1000000);
+        KeyGuess x = Given.made(0, 0, 1000000);
         DUE.is("find(0)", x.find(0), 0);
         DUE.is("find(1000000)", x.find(1000000), 1);
         DUE.is("guess(999999)", x.guess(999999), 0);
