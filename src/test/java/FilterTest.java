@@ -1,4 +1,4 @@
-/** Promises 16 to 19: maybe, wrong, poison, count. */
+/** Promises 16 to 19, in ordinary use. */
 final class FilterTest {
     private static final Due DUE = new Due();
 
@@ -8,9 +8,7 @@ final class FilterTest {
         wrong();
         poison();
         poisonSlack();
-        poisonRefused();
         poisonChangesNothing();
-        count();
         DUE.end();
     }
 
@@ -40,9 +38,6 @@ final class FilterTest {
         DUE.is("maybe(1674): 61 * 27 + 27", z.maybe(1674), 1);
         DUE.is("maybe(558): 61 * 9 + 9", z.maybe(558), 1);
         DUE.is("maybe(32): bits 32, 0", z.maybe(32), 0);
-        for (int out : Given.OUT) {
-            DUE.is("maybe out of bounds", z.maybe(out), KeyGuess.BAD);
-        }
     }
 
     private static void filterSinceMade() {
@@ -81,11 +76,6 @@ final class FilterTest {
         DUE.is("wrong(5, 4)", x.wrong(5, 4), KeyGuess.BAD);
         DUE.is("wrong(998000, 1000000)", Given.made(2).wrong(998000, 1000000), 0);
         DUE.is("wrong(0, 1000000)", x.wrong(0, 1000000), KeyGuess.BAD);
-        for (int out : Given.OUT) {
-            DUE.is("wrong from out of bounds", x.wrong(out, 5), KeyGuess.BAD);
-            DUE.is("wrong to out of bounds", x.wrong(999999, out), KeyGuess.BAD);
-            DUE.is("wrong out of bounds", x.wrong(out, out), KeyGuess.BAD);
-        }
     }
 
     private static void poison() {
@@ -124,60 +114,16 @@ final class FilterTest {
         DUE.is("slack 1: 11", Given.made(1, keys).poison(9, 13, 0), 11);
     }
 
-    private static void poisonRefused() {
-        KeyGuess x = Given.made(0, 0, 10, 20);
-        DUE.is("poison(0, 41, 0)", x.poison(0, 41, 0), KeyGuess.BAD);
-        DUE.is("poison(5, 4, 0)", x.poison(5, 4, 0), KeyGuess.BAD);
-        DUE.is("poison(0, 4, 2)", x.poison(0, 4, 2), KeyGuess.BAD);
-        DUE.is("poison(0, 4, -1)", x.poison(0, 4, -1), KeyGuess.BAD);
-        for (int out : Given.OUT) {
-            DUE.is("poison from out of bounds", x.poison(out, 5, 0), KeyGuess.BAD);
-            DUE.is("poison to out of bounds", x.poison(999999, out, 0), KeyGuess.BAD);
-            DUE.is("poison out of bounds", x.poison(out, out, 1), KeyGuess.BAD);
-            DUE.is("poison what out of bounds", x.poison(10, 10, out), KeyGuess.BAD);
-        }
-        KeyGuess full = new KeyGuess();
-        for (int k = 0; k < 59; k++) {
-            full.put(k);
-        }
-        DUE.is("59 keys", full.poison(20, 60, 0), 59);
-        DUE.is("59 keys: all", full.poison(10, 50, 0), KeyGuess.NONE);
-        full.put(59);
-        DUE.is("60 keys", full.poison(20, 60, 0), KeyGuess.FULL);
-        DUE.is("60 keys: FULL though all are keys", full.poison(10, 50, 1), KeyGuess.FULL);
-        DUE.is("60 keys: BAD goes first", full.poison(0, 41, 0), KeyGuess.BAD);
-        DUE.is("60 keys: BAD what goes first", full.poison(0, 4, 2), KeyGuess.BAD);
-    }
-
     private static void poisonChangesNothing() {
         KeyGuess x = Given.made(0, 0, 10, 20);
         x.put(33);
         x.poison(21, 61, 0);
-        int[] due = {4, 3, 1, 0};
-        for (int what = 0; what < due.length; what++) {
-            DUE.is("count(" + what + ") after poison", x.count(what), due[what]);
-        }
+        DUE.counts("after poison", x, 4, 3, 1, 0);
         DUE.is("pieces(0) after poison", x.pieces(0), 1);
         DUE.is("piece(0, 0, 4) after poison", x.piece(0, 0, 4), 10);
         DUE.is("place(33) after poison", x.place(33), 3);
         DUE.is("range after poison", x.range(0, 1000000), 4);
         DUE.is("find(10) after poison", x.find(10), 1);
         DUE.is("maybe(21) after poison", x.maybe(21), 0);
-    }
-
-    private static void count() {
-        KeyGuess x = Given.made(2, 0, 61, 122);
-        x.put(5);
-        x.put(6);
-        x.take(61);
-        // Bits 0; 0, 1; 0, 2; 5, 0; 6, 0.
-        int[] due = {4, 3, 2, 1, 3, 5};
-        for (int what = 0; what < due.length; what++) {
-            DUE.is("count(" + what + ")", x.count(what), due[what]);
-        }
-        DUE.is("count(6)", x.count(6), KeyGuess.BAD);
-        DUE.is("count(-1)", x.count(-1), KeyGuess.BAD);
-        DUE.is("count(MIN)", x.count(Integer.MIN_VALUE), KeyGuess.BAD);
-        DUE.is("count(MAX)", x.count(Integer.MAX_VALUE), KeyGuess.BAD);
     }
 }

@@ -5,6 +5,7 @@ import java.util.TreeSet;
 
 /** Long runs of mixed calls, each answer compared with the model's (all promises). */
 final class ModelTest {
+    /** What an object answers after so many calls is free. */
     private static final int CALLS = 512;
     private static final int[] EDGES = {
         Integer.MIN_VALUE, -2, -1, 0, 1, 999999, 1000000, 1000001, Integer.MAX_VALUE
@@ -16,6 +17,7 @@ final class ModelTest {
     private final KeyGuess x = new KeyGuess();
     private final Model model = new Model();
     private final List<Integer> used = new ArrayList<>();
+    private int calls;
 
     private ModelTest(Due due, int seed) {
         this.due = due;
@@ -25,7 +27,7 @@ final class ModelTest {
 
     public static void main(String[] args) {
         Due due = new Due();
-        for (int seed = 0; seed < 240; seed++) {
+        for (int seed = 0; seed < 1200; seed++) {
             new ModelTest(due, seed).run();
         }
         compareWithAllWays(due);
@@ -34,7 +36,7 @@ final class ModelTest {
 
     private void run() {
         int mostKeys = 5 + random.nextInt(60);
-        for (int call = 0; call < CALLS; call++) {
+        while (calls < CALLS) {
             int kind = random.nextInt(100);
             if (kind < 30 && model.count(0) < mostKeys) {
                 int key = number();
@@ -48,7 +50,9 @@ final class ModelTest {
             } else {
                 change(random.nextInt(2));
             }
-            states();
+            if (calls < CALLS) {
+                state(random.nextInt(9) - 1);
+            }
         }
     }
 
@@ -69,7 +73,7 @@ final class ModelTest {
             case 1 -> is("at", x.at(a % 70), model.at(a % 70), a % 70);
             case 2 -> is("range", x.range(a, b), model.range(a, b), a, b);
             case 3 -> is("sum", x.sum(a, b), model.sum(a, b), a, b);
-            case 4, 5, 6 -> everyPiece();
+            case 4, 5, 6 -> onePiece();
             case 7, 8 -> is("guess", x.guess(a), model.guess(a), a);
             case 9, 10 -> is("find", x.find(a), model.find(a), a);
             case 11, 12 -> is("looks", x.looks(a), model.looks(a), a);
@@ -86,22 +90,22 @@ final class ModelTest {
         }
     }
 
-    private void everyPiece() {
+    private void onePiece() {
         int level = random.nextInt(13) == 0 ? number() : random.nextInt(8) - 1;
-        is("pieces", x.pieces(level), model.pieces(level), level);
-        for (int k = -1; k <= model.pieces(level); k++) {
-            for (int what = -1; what <= 5; what++) {
-                is("piece", x.piece(level, k, what), model.piece(level, k, what), level, k, what);
-            }
+        int many = model.pieces(level);
+        is("pieces", x.pieces(level), many, level);
+        int k = random.nextInt(Math.max(many, 0) + 2) - 1;
+        for (int what = -1; what <= 5 && calls < CALLS; what++) {
+            is("piece", x.piece(level, k, what), model.piece(level, k, what), level, k, what);
         }
     }
 
-    /** What has no argument to choose is compared after every call. */
-    private void states() {
-        for (int what = -1; what <= 6; what++) {
+    private void state(int what) {
+        if (what == 7) {
+            is("levels", x.levels(), model.levels());
+        } else {
             is("count", x.count(what), model.count(what), what);
         }
-        is("levels", x.levels(), model.levels());
     }
 
     private int number() {
@@ -123,6 +127,7 @@ final class ModelTest {
     }
 
     private void is(String name, long got, long want, int... args) {
+        calls++;
         StringBuilder call = new StringBuilder("shape " + shape + ": " + name + "(");
         for (int k = 0; k < args.length; k++) {
             call.append(k == 0 ? "" : ", ").append(args[k]);

@@ -1,13 +1,11 @@
-/** Promises 10 to 15: pieces, piece, levels, guess, find, looks. */
+/** Promises 10 to 15, in ordinary use. */
 final class PiecesTest {
     private static final Due DUE = new Due();
 
     public static void main(String[] args) {
         pieces();
         longestIsNotFewest();
-        longestFirstOfAsFew();
         slopes();
-        pieceRefused();
         levels();
         keptUntilMade();
         guess();
@@ -15,30 +13,18 @@ final class PiecesTest {
         looksBothSides();
         looksInOnePiece();
         withoutKeys();
-        outOfBounds();
         DUE.end();
-    }
-
-    private static void piece(String when, KeyGuess x, int level, int k, int... due) {
-        for (int what = 0; what < due.length; what++) {
-            String call = when + " piece(" + level + ", " + k + ", " + what + ")";
-            DUE.is(call, x.piece(level, k, what), due[what]);
-        }
     }
 
     private static void pieces() {
         KeyGuess x = Given.made(0, 10, 20, 30, 40, 55, 70, 85);
         DUE.is("pieces(0)", x.pieces(0), 2);
-        piece("straight", x, 0, 0, 0, 3, 10, 1, 10);
-        piece("straight", x, 0, 1, 4, 6, 55, 1, 15);
+        DUE.piece("straight", x, 0, 0, 0, 3, 10, 1, 10);
+        DUE.piece("straight", x, 0, 1, 4, 6, 55, 1, 15);
         DUE.is("pieces(1)", x.pieces(1), 1);
-        piece("over it", x, 1, 0, 0, 1, 10, 1, 45);
+        DUE.piece("over it", x, 1, 0, 0, 1, 10, 1, 45);
         DUE.is("pieces(2)", x.pieces(2), 0);
         DUE.is("pieces(9)", x.pieces(9), 0);
-        DUE.is("pieces(10)", x.pieces(10), KeyGuess.BAD);
-        DUE.is("pieces(-1)", x.pieces(-1), KeyGuess.BAD);
-        DUE.is("pieces(MIN)", x.pieces(Integer.MIN_VALUE), KeyGuess.BAD);
-        DUE.is("pieces(MAX)", x.pieces(Integer.MAX_VALUE), KeyGuess.BAD);
         KeyGuess none = Given.made(2);
         DUE.is("pieces(0) without keys", none.pieces(0), 0);
         DUE.is("pieces(9) without keys", none.pieces(9), 0);
@@ -48,79 +34,48 @@ final class PiecesTest {
     private static void longestIsNotFewest() {
         KeyGuess x = Given.made(1, 3, 4, 5, 12, 15, 17, 34);
         DUE.is("fewest pieces(0)", x.pieces(0), 2);
-        piece("fewest", x, 0, 0, 0, 1, 3, 0, 1);
-        piece("fewest", x, 0, 1, 2, 6, 5, 1, 6);
-    }
-
-    /** Squares: no three of them are in line, so two pieces are needed; the first has two ranks. */
-    private static void longestFirstOfAsFew() {
-        KeyGuess x = Given.made(0, 0, 1, 4);
-        DUE.is("as few pieces(0)", x.pieces(0), 2);
-        piece("as few", x, 0, 0, 0, 1, 0, 1, 1);
-        piece("as few", x, 0, 1, 2, 2, 4, 0, 1);
-        KeyGuess y = Given.made(0, 0, 1, 4, 9, 16);
-        DUE.is("as few of five", y.pieces(0), 3);
-        piece("as few of five", y, 0, 1, 2, 3, 4, 1, 5);
-        piece("as few of five", y, 0, 2, 4, 4, 16, 0, 1);
+        DUE.piece("fewest", x, 0, 0, 0, 1, 3, 0, 1);
+        DUE.piece("fewest", x, 0, 1, 2, 6, 5, 1, 6);
     }
 
     private static void slopes() {
-        piece("one key", Given.made(0, 1000000), 0, 0, 0, 0, 1000000, 0, 1);
-        piece("slope 0 is enough", Given.made(2, 0, 1, 2), 0, 0, 0, 2, 0, 0, 1);
+        DUE.piece("one key", Given.made(0, 1000000), 0, 0, 0, 0, 1000000, 0, 1);
+        DUE.piece("slope 0 is enough", Given.made(2, 0, 1, 2), 0, 0, 0, 2, 0, 0, 1);
         // Bounds from below 1/10, 2/20, 3/30 with no slack; 0, 1/20, 2/30 with 1.
-        piece("no slack", Given.made(0, 0, 10, 20, 30), 0, 0, 0, 3, 0, 1, 10);
-        piece("slack 1", Given.made(1, 0, 10, 20, 30), 0, 0, 0, 3, 0, 1, 15);
+        DUE.piece("no slack", Given.made(0, 0, 10, 20, 30), 0, 0, 0, 3, 0, 1, 10);
+        DUE.piece("slack 1", Given.made(1, 0, 10, 20, 30), 0, 0, 0, 3, 0, 1, 15);
         // The bound that counts need not be the last one: 0, 1/2, 2/8, 3/9, and 4/8 from above.
-        piece("bound in between", Given.made(1, 0, 1, 2, 8, 9), 0, 0, 0, 4, 0, 1, 2);
+        DUE.piece("bound in between", Given.made(1, 0, 1, 2, 8, 9), 0, 0, 0, 4, 0, 1, 2);
         // Above 0 are the bounds 1/6, 2/7, 3/8.
-        piece("slack 5", Given.made(5, 0, 1, 2, 3, 4, 5, 6, 7, 8), 0, 0, 0, 8, 0, 3, 8);
+        DUE.piece("slack 5", Given.made(5, 0, 1, 2, 3, 4, 5, 6, 7, 8), 0, 0, 0, 8, 0, 3, 8);
         // So need the bound from above: 2/100 by the second key is below 3/103 by the fifth.
-        piece("bound from above", Given.made(1, 0, 100, 101, 102, 103), 0, 0, 0, 3, 0, 1, 51);
-        piece("far apart", Given.made(0, 0, 1000000), 0, 0, 0, 1, 0, 1, 1000000);
+        DUE.piece("bound from above", Given.made(1, 0, 100, 101, 102, 103), 0, 0, 0, 3, 0, 1, 51);
+        DUE.piece("far apart", Given.made(0, 0, 1000000), 0, 0, 0, 1, 0, 1, 1000000);
         // The slope is 1/2 or more by 2, at most 4/8 by 8 and 4/9 by 9.
         DUE.is("just allowed", Given.made(1, 0, 1, 2, 8).pieces(0), 1);
         DUE.is("just not allowed", Given.made(1, 0, 1, 2, 9).pieces(0), 2);
     }
 
-    private static void pieceRefused() {
-        KeyGuess x = Given.made(0, 10, 20, 30, 40, 55, 70, 85);
-        int[][] bad = {
-            {-1, 0, 0}, {2, 0, 0}, {9, 0, 0}, {10, 0, 0}, {0, -1, 0}, {0, 2, 0}, {1, 1, 0},
-            {0, 0, -1}, {0, 0, 5}, {Integer.MIN_VALUE, 0, 0}, {Integer.MAX_VALUE, 0, 0},
-            {0, Integer.MIN_VALUE, 0}, {0, Integer.MAX_VALUE, 0}, {0, 0, Integer.MIN_VALUE},
-            {0, 0, Integer.MAX_VALUE}
-        };
-        for (int[] b : bad) {
-            String call = "piece(" + b[0] + ", " + b[1] + ", " + b[2] + ")";
-            DUE.is(call, x.piece(b[0], b[1], b[2]), KeyGuess.BAD);
-        }
-        DUE.is("piece without keys", new KeyGuess().piece(0, 0, 0), KeyGuess.BAD);
-    }
-
-    /** No three squares are in line, nor are their every second: 60 halve to 30, 15, 8, 4, 2, 1. */
+    /** 60 squares halve to 30, 15, 8, 4, 2, 1. */
     private static void levels() {
-        int[] squares = new int[60];
-        for (int k = 0; k < 60; k++) {
-            squares[k] = k * k;
-        }
-        KeyGuess x = Given.made(0, squares);
+        KeyGuess x = Given.made(0, Given.squares(60));
         int[] due = {30, 15, 8, 4, 2, 1, 0, 0, 0, 0};
         for (int level = 0; level < due.length; level++) {
             DUE.is("squares pieces(" + level + ")", x.pieces(level), due[level]);
         }
         DUE.is("squares levels()", x.levels(), 6);
-        piece("squares", x, 0, 29, 58, 59, 58 * 58, 1, 117);
-        piece("squares", x, 1, 14, 28, 29, 56 * 56, 1, 58 * 58 - 56 * 56);
-        piece("squares", x, 2, 7, 14, 14, 56 * 56, 0, 1);
-        piece("squares", x, 5, 0, 0, 1, 0, 1, 32 * 32);
+        DUE.piece("squares", x, 0, 29, 58, 59, 58 * 58, 1, 117);
+        DUE.piece("squares", x, 1, 14, 28, 29, 56 * 56, 1, 58 * 58 - 56 * 56);
+        DUE.piece("squares", x, 2, 7, 14, 14, 56 * 56, 0, 1);
+        DUE.piece("squares", x, 5, 0, 0, 1, 0, 1, 32 * 32);
         DUE.is("one level", Given.made(2, 5).levels(), 1);
         DUE.is("no level", Given.made(2).levels(), 0);
         // The upper level has the same slack: 0, 10000, 1000000 are not in line.
         KeyGuess y = Given.made(1, 0, 1, 2, 10000, 10001, 10002, 1000000);
         DUE.is("slack 1 pieces(0)", y.pieces(0), 3);
-        piece("slack 1", y, 0, 1, 3, 5, 10000, 1, 2);
+        DUE.piece("slack 1", y, 0, 1, 3, 5, 10000, 1, 2);
         DUE.is("slack 1 levels()", y.levels(), 2);
-        piece("slack 1", y, 1, 0, 0, 2, 0, 1, 1000000);
+        DUE.piece("slack 1", y, 1, 0, 0, 2, 0, 1, 1000000);
     }
 
     private static void keptUntilMade() {
@@ -128,7 +83,7 @@ final class PiecesTest {
         x.put(31);
         x.put(32);
         x.take(20);
-        piece("before", x, 0, 0, 0, 2, 10, 1, 10);
+        DUE.piece("before", x, 0, 0, 0, 2, 10, 1, 10);
         DUE.is("before pieces(0)", x.pieces(0), 1);
         DUE.is("before levels()", x.levels(), 1);
         DUE.is("before guess(20)", x.guess(20), 1);
@@ -137,8 +92,8 @@ final class PiecesTest {
         DUE.is("before find(31)", x.find(31), KeyGuess.NONE);
         x.make();
         DUE.is("after pieces(0)", x.pieces(0), 2);
-        piece("after", x, 0, 0, 0, 1, 10, 1, 20);
-        piece("after", x, 0, 1, 2, 3, 31, 1, 1);
+        DUE.piece("after", x, 0, 0, 0, 1, 10, 1, 20);
+        DUE.piece("after", x, 0, 1, 2, 3, 31, 1, 1);
         DUE.is("after find(31)", x.find(31), 2);
         DUE.is("after find(20)", x.find(20), KeyGuess.NONE);
     }
@@ -161,8 +116,8 @@ final class PiecesTest {
 
     /** Ten keys 0, 10, .. 90 with slack 2: slope 7/90, so the guess of rank k is 7k / 9, cut. */
     private static void looksAmongEvenKeys() {
-        KeyGuess x = Given.made(2, 0, 10, 20, 30, 40, 50, 60, 70, 80, 90);
-        piece("even", x, 0, 0, 0, 9, 0, 7, 90);
+        KeyGuess x = Given.made(2, Given.line(10, 10));
+        DUE.piece("even", x, 0, 0, 0, 9, 0, 7, 90);
         int[] looks = {1, 2, 3, 3, 3, 5, 5, 5, 5, 5};
         for (int k = 0; k < looks.length; k++) {
             DUE.is("guess(" + 10 * k + ")", x.guess(10 * k), 7 * k / 9);
@@ -219,19 +174,5 @@ final class PiecesTest {
         DUE.is("guess(5) of none again", x.guess(5), KeyGuess.NONE);
         DUE.is("find(5) of none again", x.find(5), KeyGuess.NONE);
         DUE.is("looks(5) of none again", x.looks(5), 0);
-    }
-
-    private static void outOfBounds() {
-        for (KeyGuess x : new KeyGuess[] {new KeyGuess(), Given.made(2, 0, 5, 1000000)}) {
-            for (int out : Given.OUT) {
-                DUE.is("guess out of bounds", x.guess(out), KeyGuess.BAD);
-                DUE.is("find out of bounds", x.find(out), KeyGuess.BAD);
-                DUE.is("looks out of bounds", x.looks(out), KeyGuess.BAD);
-            }
-        }
-        KeyGuess x = Given.made(0, 0, 1000000);
-        DUE.is("find(0)", x.find(0), 0);
-        DUE.is("find(1000000)", x.find(1000000), 1);
-        DUE.is("guess(999999)", x.guess(999999), 0);
     }
 }
